@@ -8,6 +8,7 @@ public final class PushedTables {
     public static final int NONE = -9;
 
     private static final int MOST_ROWS = 24;
+    private static final int MOST_FORMS = MOST_ROWS;
     private static final int COLUMNS = 16;
     private static final int ALL_COLUMNS = (1 << COLUMNS) - 1;
     private static final int GREATEST_VALUE = 99;
@@ -180,7 +181,7 @@ public final class PushedTables {
     }
 
     public int form(int form, int what) {
-        if (form < 0 || form >= MOST_ROWS || what < 0 || what > 2) {
+        if (form < 0 || form >= MOST_FORMS || what < 0 || what > 2) {
             return INVALID_ARGUMENT;
         }
         int shift = table.state.shiftOf(form);
@@ -268,7 +269,7 @@ public final class PushedTables {
         /** By the row's number; NONE without a form. */
         final int[] forms = new int[MOST_ROWS];
         /** By the form's number; NONE if no form has it. */
-        final int[] shifts = new int[MOST_ROWS];
+        final int[] shifts = new int[MOST_FORMS];
 
         State() {
             forgetForms();
@@ -279,7 +280,7 @@ public final class PushedTables {
             System.arraycopy(other.defaults, 0, defaults, 0, MOST_ROWS);
             System.arraycopy(other.values, 0, values, 0, MOST_ROWS * COLUMNS);
             System.arraycopy(other.forms, 0, forms, 0, MOST_ROWS);
-            System.arraycopy(other.shifts, 0, shifts, 0, MOST_ROWS);
+            System.arraycopy(other.shifts, 0, shifts, 0, MOST_FORMS);
         }
 
         private void forgetForms() {
@@ -398,12 +399,12 @@ public final class PushedTables {
         }
 
         int shiftOf(int form) {
-            return form >= 0 && form < MOST_ROWS ? shifts[form] : NONE;
+            return form >= 0 && form < MOST_FORMS ? shifts[form] : NONE;
         }
 
         int formCount() {
             int count = 0;
-            for (int form = 0; form < MOST_ROWS; form++) {
+            for (int form = 0; form < MOST_FORMS; form++) {
                 if (shifts[form] != NONE) {
                     count++;
                 }
@@ -423,7 +424,7 @@ public final class PushedTables {
 
         /** The smallest number that no form has; there is one while some row has no form. */
         int freeForm() {
-            for (int form = 0; form < MOST_ROWS; form++) {
+            for (int form = 0; form < MOST_FORMS; form++) {
                 if (shifts[form] == NONE) {
                     return form;
                 }
@@ -568,7 +569,7 @@ public final class PushedTables {
         }
 
         private int formWithEntriesOf(int row) {
-            for (int form = 0; form < MOST_ROWS; form++) {
+            for (int form = 0; form < MOST_FORMS; form++) {
                 if (hasEntriesOf(form, row)) {
                     return form;
                 }
@@ -755,11 +756,11 @@ public final class PushedTables {
             int before = -1;
             // One turn more than there are columns: no column is left for the last turn, so that it fails.
             for (int turn = 0; turn <= COLUMNS; turn++) {
-                if (!readColumn(before)) {
+                if (!readNumber() || !allowNumber(isColumn(number) && number > before)) {
                     return false;
                 }
                 int column = number;
-                if (!takeSign('=') || !readEntryValue(defaults[row])) {
+                if (!takeSign('=') || !readNumber() || !allowNumber(number != defaults[row])) {
                     return false;
                 }
                 values[row * COLUMNS + column] = number;
@@ -772,14 +773,6 @@ public final class PushedTables {
                 before = column;
             }
             return false;
-        }
-
-        private boolean readColumn(int before) {
-            return readNumber() && allowNumber(isColumn(number) && number > before);
-        }
-
-        private boolean readEntryValue(int rowDefault) {
-            return readNumber() && allowNumber(number != rowDefault);
         }
 
         /** A number that is not allowed fails at its first digit, but only once it has ended. */

@@ -36,6 +36,7 @@ public final class PromiseTests {
         tests.endBy();
         tests.slimmer();
         tests.like();
+        tests.fullTable();
         tests.checks.end();
     }
 
@@ -242,6 +243,11 @@ public final class PromiseTests {
         due("entry that stays", x.get(0, 0), 7);
         due("entry that is none", x.get(0, 2), 8);
         due("another cell", x.get(0, 3), 8);
+        x.setDefault(1, 9);
+        x.set(1, 0, 9);
+        due("setDefault(1, 5) without entries", x.setDefault(1, 5), 0);
+        due("the first cell", x.get(1, 0), 5);
+        x.set(1, 0, 6);
         due("setDefault(0, 7)", x.setDefault(0, 7), 0);
         due("form without entries", x.row(0, 2), NONE);
         due("setDefault(1, 0)", x.setDefault(1, 0), 1);
@@ -283,6 +289,9 @@ public final class PromiseTests {
         due("removeLast()", x.removeLast(), ILLEGAL);
         due("undo()", x.undo(), 4);
         due("cell again", x.cell(0, 0), 1);
+        due("rows again", x.count(0), 1);
+        due("undo()", x.undo(), 3);
+        due("rows again", x.count(0), 2);
     }
 
     private void slim() {
@@ -323,6 +332,20 @@ public final class PromiseTests {
         }
         due("slim(0)", x.slim(0), 20);
         due("weight", x.row(0, 1), 10);
+
+        begin("6 slim, a smaller value that is not so common");
+        addRows(1, 9);
+        setAll(0, 3, 1, 4, 1);
+        due("slim(0)", x.slim(0), 9);
+        setAll(0, 0, 2);
+        due("slim(0)", x.slim(0), 9);
+        for (int smallest = 0; smallest < 16; smallest++) {
+            for (int column = 0; column < 16; column++) {
+                x.set(0, column, 20 + (column + 16 - smallest) % 16);
+            }
+            due("slim(0), all values differ", x.slim(0), 20);
+            due("weight, all values differ", x.row(0, 1), 15);
+        }
     }
 
     private void push() {
@@ -397,6 +420,25 @@ public final class PromiseTests {
         x.setDefault(0, 1);
         x.set(0, 0, 1);
         due("actions that change nothing are recorded", x.count(7), 4);
+
+        begin("8 undo, of each action");
+        addRows(2, 5);
+        setAll(0, 3, 7);
+        x.setDefault(0, 7);
+        due("undo of setDefault", x.undo(), 3);
+        due("default", x.row(0, 0), 5);
+        due("value", x.get(0, 3), 7);
+        due("form", x.row(0, 2), 0);
+        for (int column = 0; column < 10; column++) {
+            x.set(0, column, 7);
+        }
+        x.slim(0);
+        due("undo of slim", x.undo(), 4);
+        due("default", x.row(0, 0), 5);
+        due("weight", x.row(0, 1), 10);
+        x.removeLast();
+        due("undo of removeLast", x.undo(), 4);
+        due("value of a row again", x.get(1, 15), 5);
     }
 
     // ---- promises 9 to 11: texts
@@ -507,7 +549,14 @@ public final class PromiseTests {
         failsAt("12:3=1 2;", 7);
         failsAt("12:3=1\t;", 6);
         failsAt(":1=2;:1=2;:1=0;", 13);
-        failsAt(":0=1,1=1,2=1,3=1,4=1,5=1,6=1,7=1,8=1,9=1,10=1,11=1,12=1,13=1,14=1,15=1,9=1;", 71);
+        String full = ":0=1,1=1,2=1,3=1,4=1,5=1,6=1,7=1,8=1,9=1,10=1,11=1,12=1,13=1,14=1,15=1";
+        failsAt(full + ",9=1;", 71);
+        failsAt(full + ", 9=1;", 72);
+        failsAt(full + ",15=1;", 71);
+        failsAt(full + ",155=1;", 73);
+        failsAt(full + ",;", 71);
+        failsAt(full + ", ", 72);
+        failsAt(full, 70);
         readsAs("12:3=1;", 1);
         due("cells", x.count(3), 1);
     }
@@ -574,6 +623,16 @@ public final class PromiseTests {
         setAll(1, 0, 0);
         due("waste at the front", x.count(5), 2);
         due("refused without strangers", x.count(6), 0);
+
+        begin("13 count, behind a row that is gone");
+        addRows(2, 0);
+        setAll(0, 0, 1);
+        setAll(1, 0, 9, 2, 8);
+        x.removeLast();
+        int[] left = {1, 1, 1, 1, 1, 0, 0, 5, 0};
+        for (int what = 0; what <= 8; what++) {
+            due("count(" + what + ")", x.count(what), left[what]);
+        }
     }
 
     private void row() {
@@ -707,6 +766,12 @@ public final class PromiseTests {
         due("slimmer() then", x.slimmer(), 9);
         x.slim(1);
         due("slimmer() at last", x.slimmer(), 0);
+        x.set(1, 0, 8);
+        due("slimmer() of eight values 7 and eight values 8", x.slimmer(), 0);
+        x.set(1, 8, 8);
+        due("slimmer() of seven values 7 and nine values 8", x.slimmer(), 2);
+        x.removeLast();
+        due("slimmer() without that row", x.slimmer(), 0);
     }
 
     private void like() {
@@ -731,5 +796,48 @@ public final class PromiseTests {
         due("a tie: the smallest", x.like(0), 1);
         due("values are the same by the default or an entry", x.like(2), 1);
         due("history", x.count(7), 5);
+
+        begin("20 like, the first and the last column");
+        for (int column : new int[] {0, 15}) {
+            x = new PushedTables();
+            addRows(3, 0);
+            x.setDefault(1, 1);
+            x.setDefault(2, 2);
+            x.set(2, column, 0);
+            due("like(0)", x.like(0), 2);
+            due("like(1)", x.like(1), 0);
+            due("like(2)", x.like(2), 0);
+        }
+    }
+
+    // ---- all promises at once, on 24 rows of one form each
+
+    private void fullTable() {
+        begin("a full table");
+        addRows(24, 0);
+        for (int row = 0; row < 24; row++) {
+            x.set(row, 15, row + 1);
+        }
+        due("forms", x.count(1), 24);
+        due("shift of the last row", x.row(23, 3), 23);
+        due("end", x.count(4), 39);
+        due("refused", x.count(6), 15 * 16 / 2 + 8 * 15);
+        due("endBy(0)", x.endBy(0), 39);
+        due("endBy(1)", x.endBy(1), 39);
+        due("slimmer()", x.slimmer(), 0);
+        due("like(23)", x.like(23), 0);
+        due("slim(23)", x.slim(23), 0);
+        due("set(23, 15, 99)", x.set(23, 15, 99), 24);
+        due("its form", x.row(23, 2), 23);
+        due("setDefault(23, 99)", x.setDefault(23, 99), 0);
+        due("set(0, 15, 77)", x.set(0, 15, 77), 1);
+        due("a form in place of the first", x.row(0, 3), 0);
+        due("push()", x.push(), 38);
+        due("forms then", x.count(1), 23);
+        due("undo()", x.undo(), 4);
+        due("undo()", x.undo(), 3);
+        due("value", x.get(0, 15), 1);
+        due("cell", x.cell(15, 0), 1);
+        failsAt(":;", 0);
     }
 }
