@@ -2,8 +2,9 @@ import java.util.Random;
 
 /** Runs of calls drawn from fixed seeds, on the class and on the model, whose answers must be the same. */
 public final class ModelTests {
-    private static final int RUNS = 120;
-    private static final int CALLS = 512;
+    private static final int RUNS = 2000;
+    /** What later calls on an object answer is free. */
+    private static final int MOST_CALLS = 512;
 
     private final Checks checks;
     private final Random random;
@@ -14,6 +15,7 @@ public final class ModelTests {
     private final int values;
     private final int columns;
     private final int wrongArguments;
+    private int calls = 0;
 
     private ModelTests(Checks checks, int seed) {
         this.checks = checks;
@@ -37,22 +39,31 @@ public final class ModelTests {
         for (int i = 0; i < rowsAtFirst; i++) {
             equal("add", tables.add(0), model.add(0));
         }
-        for (int call = 0; call < CALLS && checks.allPassed(); call++) {
-            if (random.nextInt(25) == 0) {
+        int callsOfActions = MOST_CALLS / 4 + random.nextInt(MOST_CALLS / 2);
+        int looksBehindAnAction = random.nextInt(4);
+        while (calls < callsOfActions && checks.allPassed()) {
+            if (random.nextInt(40) == 0) {
                 readSomeText();
             } else {
                 act();
             }
-            look();
-            if (call % 64 == 0) {
-                lookAtAll();
+            for (int i = 0; i < looksBehindAnAction; i++) {
+                look();
             }
         }
-        lookAtAll();
+        for (int what = 0; what <= 8; what++) {
+            equal("count " + what, tables.count(what), model.count(what));
+        }
+        while (calls < MOST_CALLS && checks.allPassed()) {
+            look();
+        }
     }
 
     private void equal(String what, int got, int due) {
-        checks.equal(run + what, got, due);
+        calls++;
+        if (calls <= MOST_CALLS) {
+            checks.equal(run + "call " + calls + ", " + what, got, due);
+        }
     }
 
     // ---- arguments, some of them out of range
@@ -131,41 +142,50 @@ public final class ModelTests {
 
     private void look() {
         int row = someRow();
-        int other = argument(24);
-        int set = 1 + argument(65535);
-        int cell = random.nextBoolean() ? argument(40) : argument(800);
         int what = argument(9);
-        int column = argument(16);
-        equal("get " + row + " " + column, tables.get(row, column), model.get(row, column));
-        equal("count " + what, tables.count(what), model.count(what));
-        equal("row " + row + " " + what, tables.row(row, what), model.row(row, what));
-        equal("form " + other + " " + what, tables.form(other, what), model.form(other, what));
-        equal("cell " + cell + " " + what, tables.cell(cell, what), model.cell(cell, what));
-        equal("fit " + set, tables.fit(set), model.fit(set));
-        equal("endBy " + what, tables.endBy(what), model.endBy(what));
-        equal("endBy " + what % 2, tables.endBy(what % 2), model.endBy(what % 2));
-        equal("slimmer", tables.slimmer(), model.slimmer());
-        equal("like " + row, tables.like(row), model.like(row));
+        switch (random.nextInt(12)) {
+            case 0:
+                equal("count " + what, tables.count(what), model.count(what));
+                break;
+            case 1:
+                int set = random.nextBoolean() ? 1 + argument(65535) : 1 << argument(16) | 1 << argument(16);
+                equal("fit " + set, tables.fit(set), model.fit(set));
+                break;
+            case 2:
+                int order = argument(2);
+                equal("endBy " + order, tables.endBy(order), model.endBy(order));
+                break;
+            case 3:
+                equal("slimmer", tables.slimmer(), model.slimmer());
+                break;
+            case 4:
+                equal("like " + row, tables.like(row), model.like(row));
+                break;
+            case 5:
+                int column = argument(16);
+                equal("get " + row + " " + column, tables.get(row, column), model.get(row, column));
+                break;
+            case 6:
+            case 7:
+                int property = argument(5);
+                equal("row " + row + " " + property, tables.row(row, property), model.row(row, property));
+                break;
+            case 8:
+            case 9:
+                lookAtForm(argument(random.nextBoolean() ? 24 : Math.max(1, model.count(1))), argument(3));
+                break;
+            default:
+                lookAtCell(random.nextInt(4) == 0 ? argument(800) : argument(model.count(4) + 1), argument(2));
+                break;
+        }
     }
 
-    private void lookAtAll() {
-        for (int what = -1; what <= 9; what++) {
-            equal("count " + what, tables.count(what), model.count(what));
-        }
-        for (int number = -1; number <= 24; number++) {
-            for (int what = -1; what <= 5; what++) {
-                equal("row " + number + " " + what, tables.row(number, what), model.row(number, what));
-                equal("form " + number + " " + what, tables.form(number, what), model.form(number, what));
-            }
-            for (int column = -1; column <= 16; column++) {
-                equal("get " + number + " " + column, tables.get(number, column), model.get(number, column));
-            }
-        }
-        int end = model.count(4);
-        for (int cell = -1; cell <= 800; cell += cell > end ? 37 : 1) {
-            equal("cell " + cell, tables.cell(cell, 0), model.cell(cell, 0));
-            equal("mark " + cell, tables.cell(cell, 1), model.cell(cell, 1));
-        }
+    private void lookAtForm(int form, int what) {
+        equal("form " + form + " " + what, tables.form(form, what), model.form(form, what));
+    }
+
+    private void lookAtCell(int cell, int what) {
+        equal("cell " + cell + " " + what, tables.cell(cell, what), model.cell(cell, what));
     }
 
     // ---- texts

@@ -1,16 +1,5 @@
 /** The promises one by one, with answers that were derived from the document by hand. */
-public final class PromiseTests {
-    private static final int INVALID = PushedTables.INVALID_ARGUMENT;
-    private static final int ILLEGAL = PushedTables.ILLEGAL_STATE;
-    private static final int FULL = PushedTables.CAPACITY_EXCEEDED;
-    private static final int NONE = PushedTables.NONE;
-    private static final int MIN = Integer.MIN_VALUE;
-    private static final int MAX = Integer.MAX_VALUE;
-
-    private final Checks checks = new Checks();
-    private String promise = "";
-    private PushedTables x = new PushedTables();
-
+public final class PromiseTests extends TableTests {
     public static void main(String[] args) {
         PromiseTests tests = new PromiseTests();
         tests.newObject();
@@ -20,6 +9,7 @@ public final class PromiseTests {
         tests.setDefault();
         tests.removeLast();
         tests.slim();
+        tests.slimOfFourValues();
         tests.push();
         tests.undo();
         tests.append();
@@ -40,58 +30,6 @@ public final class PromiseTests {
         tests.checks.end();
     }
 
-    // ---- helpers
-
-    private void begin(String name) {
-        promise = name;
-        x = new PushedTables();
-    }
-
-    private void due(String call, int got, int want) {
-        checks.equal(promise + ": " + call, got, want);
-    }
-
-    private void addRows(int number, int value) {
-        for (int i = 0; i < number; i++) {
-            x.add(value);
-        }
-    }
-
-    /** Sets entries of a row: column, value, column, value and so on. */
-    private void setAll(int row, int... columnsAndValues) {
-        for (int i = 0; i < columnsAndValues.length; i += 2) {
-            x.set(row, columnsAndValues[i], columnsAndValues[i + 1]);
-        }
-    }
-
-    private void write(String text) {
-        x.clearText();
-        for (int i = 0; i < text.length(); i++) {
-            x.append(text.charAt(i));
-        }
-    }
-
-    private void readsAs(String text, int want) {
-        write(text);
-        due("read of \"" + text + "\"", x.read(), want);
-    }
-
-    private void failsAt(String text, int place) {
-        int history = x.count(7);
-        int rows = x.count(0);
-        readsAs(text, -1000 - place);
-        due("length after \"" + text + "\"", x.count(8), text.length());
-        due("history after \"" + text + "\"", x.count(7), history);
-        due("rows after \"" + text + "\"", x.count(0), rows);
-    }
-
-    /** A row {0} in cell 0, and behind it a row {0, 2} at shift 1, which by weights would be at 0. */
-    private void lightBeforeHeavy() {
-        addRows(2, 0);
-        setAll(0, 0, 1);
-        setAll(1, 0, 9, 2, 8);
-    }
-
     // ---- promises 1 to 8: rows
 
     private void newObject() {
@@ -101,6 +39,9 @@ public final class PromiseTests {
         }
         due("row(0, 0)", x.row(0, 0), INVALID);
         for (int cell = 0; cell < 800; cell++) {
+            if (cell % 100 == 0) {
+                x = new PushedTables();
+            }
             due("cell(" + cell + ", 0)", x.cell(cell, 0), NONE);
             due("cell(" + cell + ", 1)", x.cell(cell, 1), NONE);
         }
@@ -348,6 +289,19 @@ public final class PromiseTests {
         }
     }
 
+    private void slimOfFourValues() {
+        begin("6 slim, the value that most cells have, in front of others that are no rare ones");
+        addRows(1, 9);
+        for (int column = 0; column < 12; column++) {
+            x.set(0, column, column == 0 ? 5 : column <= 8 ? 7 : 3);
+        }
+        due("slimmer()", x.slimmer(), 4);
+        due("slim(0)", x.slim(0), 7);
+        due("weight", x.row(0, 1), 8);
+        due("columns", x.row(0, 4), 0xfe01);
+        due("slimmer() then", x.slimmer(), 0);
+    }
+
     private void push() {
         begin("7 push");
         due("push() without rows", x.push(), 0);
@@ -499,64 +453,63 @@ public final class PromiseTests {
 
     private void readFails() {
         begin("11 read, failures");
-        addRows(1, 0);
-        failsAt("x", 0);
-        failsAt("  x", 2);
-        failsAt("1", 1);
-        failsAt("1 ", 2);
-        failsAt("1 2:;", 2);
-        failsAt("00:;", 1);
-        failsAt("05:;", 1);
-        failsAt("123:;", 2);
-        failsAt("1;", 1);
-        failsAt(":", 1);
-        failsAt(": ", 2);
-        failsAt("::;", 1);
-        failsAt(":,;", 1);
-        failsAt(":x", 1);
-        failsAt(":1", 2);
-        failsAt(":1;", 2);
-        failsAt(":1=", 3);
-        failsAt(":1=;", 3);
-        failsAt(":1==2;", 3);
-        failsAt(":1=2", 4);
-        failsAt(":1=2 ", 5);
-        failsAt(":1=2,", 5);
-        failsAt(":1=2,;", 5);
-        failsAt(":1=2 , ;", 7);
-        failsAt(":1=2 3=4;", 5);
-        failsAt(":1=2:", 4);
-        failsAt(":1=2;x", 5);
-        failsAt(":1=2;;", 5);
-        failsAt(":1=2;5", 6);
-        failsAt(":1=2,1=3;", 5);
-        failsAt(":2=2, 1=3;", 6);
-        failsAt(":12=2,11=3;", 6);
-        failsAt(":16=1;", 1);
-        failsAt(":99", 1);
-        failsAt(":16x", 1);
-        failsAt(":161=1;", 3);
-        failsAt(":15=1,", 6);
-        failsAt(":15=1,1", 6);
-        failsAt(":01=1;", 2);
-        failsAt(":00=1;", 2);
-        failsAt(":1=0", 3);
-        failsAt(":1=0;", 3);
-        failsAt(":1=00;", 4);
-        failsAt("12: 3 = 12;", 8);
-        failsAt("12:3=12", 5);
-        failsAt("12:3=123;", 7);
-        failsAt("12:3=1 2;", 7);
-        failsAt("12:3=1\t;", 6);
-        failsAt(":1=2;:1=2;:1=0;", 13);
+        fails("x", 0);
+        fails("  x", 2);
+        fails("1", 1);
+        fails("1 ", 2);
+        fails("1 2:;", 2);
+        fails("00:;", 1);
+        fails("05:;", 1);
+        fails("123:;", 2);
+        fails("1;", 1);
+        fails(":", 1);
+        fails(": ", 2);
+        fails("::;", 1);
+        fails(":,;", 1);
+        fails(":x", 1);
+        fails(":1", 2);
+        fails(":1;", 2);
+        fails(":1=", 3);
+        fails(":1=;", 3);
+        fails(":1==2;", 3);
+        fails(":1=2", 4);
+        fails(":1=2 ", 5);
+        fails(":1=2,", 5);
+        fails(":1=2,;", 5);
+        fails(":1=2 , ;", 7);
+        fails(":1=2 3=4;", 5);
+        fails(":1=2:", 4);
+        fails(":1=2;x", 5);
+        fails(":1=2;;", 5);
+        fails(":1=2;5", 6);
+        fails(":1=2,1=3;", 5);
+        fails(":2=2, 1=3;", 6);
+        fails(":12=2,11=3;", 6);
+        fails(":16=1;", 1);
+        fails(":99", 1);
+        fails(":16x", 1);
+        fails(":161=1;", 3);
+        fails(":15=1,", 6);
+        fails(":15=1,1", 6);
+        fails(":01=1;", 2);
+        fails(":00=1;", 2);
+        fails(":1=0", 3);
+        fails(":1=0;", 3);
+        fails(":1=00;", 4);
+        fails("12: 3 = 12;", 8);
+        fails("12:3=12", 5);
+        fails("12:3=123;", 7);
+        fails("12:3=1 2;", 7);
+        fails("12:3=1\t;", 6);
+        fails(":1=2;:1=2;:1=0;", 13);
         String full = ":0=1,1=1,2=1,3=1,4=1,5=1,6=1,7=1,8=1,9=1,10=1,11=1,12=1,13=1,14=1,15=1";
-        failsAt(full + ",9=1;", 71);
-        failsAt(full + ", 9=1;", 72);
-        failsAt(full + ",15=1;", 71);
-        failsAt(full + ",155=1;", 73);
-        failsAt(full + ",;", 71);
-        failsAt(full + ", ", 72);
-        failsAt(full, 70);
+        fails(full + ",9=1;", 71);
+        fails(full + ", 9=1;", 72);
+        fails(full + ",15=1;", 71);
+        fails(full + ",155=1;", 73);
+        fails(full + ",;", 71);
+        fails(full + ", ", 72);
+        fails(full, 70);
         readsAs("12:3=1;", 1);
         due("cells", x.count(3), 1);
     }
