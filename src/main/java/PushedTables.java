@@ -76,9 +76,9 @@ public final class PushedTables {
             return INVALID_ARGUMENT;
         }
         history.remember(table.state);
-        table.state.defaults[row] = table.state.commonestValue(row);
+        table.state.slimDefault(row);
         table.settle(row);
-        return table.state.defaults[row];
+        return table.state.defaultOf(row);
     }
 
     public int push() {
@@ -88,10 +88,11 @@ public final class PushedTables {
     }
 
     public int undo() {
-        if (history.size <= 0) {
+        State latest = history.takeLatest();
+        if (latest == null) {
             return ILLEGAL_STATE;
         }
-        table.restore(history.takeLatest());
+        table.restore(latest);
         return history.size;
     }
 
@@ -166,13 +167,13 @@ public final class PushedTables {
         }
         switch (what) {
             case 0:
-                return table.state.defaults[row];
+                return table.state.defaultOf(row);
             case 1:
                 return table.state.weightOf(row);
             case 2:
-                return table.state.forms[row];
+                return table.state.formOf(row);
             case 3:
-                return table.state.shiftOf(table.state.forms[row]);
+                return table.state.shiftOf(table.state.formOf(row));
             case 4:
                 return table.state.columnsOf(row);
             default:
@@ -195,7 +196,7 @@ public final class PushedTables {
         if (cell < 0 || cell >= CELLS || what < 0 || what > 1) {
             return INVALID_ARGUMENT;
         }
-        return what == 0 ? table.store.values[cell] : table.store.marks[cell];
+        return what == 0 ? table.store.valueAt(cell) : table.store.markAt(cell);
     }
 
     // ---- what could be, which changes nothing
@@ -237,7 +238,7 @@ public final class PushedTables {
 
     /** Adds a row with all its entries at once, so that it is looked for a form only then. */
     private void addRowOfText(int rowRead) {
-        int row = table.state.addRow(text.defaults[rowRead]);
+        int row = table.state.addRow(text.defaultRead(rowRead));
         if (row == NONE) {
             return;
         }
@@ -261,15 +262,28 @@ public final class PushedTables {
         return value >= 0 && value <= GREATEST_VALUE;
     }
 
+    // ---- arrays: no index that is handed over is used before it is looked at
+
+    /** NONE outside of the array. */
+    private static int numberAt(int[] numbers, int index) {
+        return index >= 0 && index < numbers.length ? numbers[index] : NONE;
+    }
+
+    private static void putAt(int[] numbers, int index, int number) {
+        if (index >= 0 && index < numbers.length) {
+            numbers[index] = number;
+        }
+    }
+
     /** The rows, the forms that they share and the shifts of these: all that undo keeps, as the cells follow from it. */
     private static final class State {
         int rowCount = 0;
-        final int[] defaults = new int[MOST_ROWS];
+        private final int[] defaults = new int[MOST_ROWS];
         private final int[] values = new int[MOST_ROWS * COLUMNS];
         /** By the row's number; NONE without a form. */
-        final int[] forms = new int[MOST_ROWS];
+        private final int[] forms = new int[MOST_ROWS];
         /** By the form's number; NONE if no form has it. */
-        final int[] shifts = new int[MOST_FORMS];
+        private final int[] shifts = new int[MOST_FORMS];
 
         State() {
             forgetForms();
@@ -283,14 +297,14 @@ public final class PushedTables {
             System.arraycopy(other.shifts, 0, shifts, 0, MOST_FORMS);
         }
 
-        private void forgetForms() {
+        void forgetForms() {
             Arrays.fill(forms, NONE);
             Arrays.fill(shifts, NONE);
         }
 
         /** Answers the new row's number, or NONE if there is no room. */
         int addRow(int value) {
-            if (rowCount >= MOST_ROWS) {
+            if (rowCount < 0 || rowCount >= MOST_ROWS) {
                 return NONE;
             }
             int row = rowCount;
@@ -301,25 +315,35 @@ public final class PushedTables {
             return row;
         }
 
+        int defaultOf(int row) {
+            return numberAt(defaults, row);
+        }
+
         int valueAt(int row, int column) {
-            return values[row * COLUMNS + column];
+            return numberAt(values, row * COLUMNS + column);
         }
 
         void changeValue(int row, int column, int value) {
-            values[row * COLUMNS + column] = value;
+            putAt(values, row * COLUMNS + column, value);
         }
 
+        /** The cells that are no entries get the new default, too. */
         void changeDefault(int row, int value) {
             for (int column = 0; column < COLUMNS; column++) {
                 if (!isEntry(row, column)) {
                     changeValue(row, column, value);
                 }
             }
-            defaults[row] = value;
+            putAt(defaults, row, value);
+        }
+
+        /** The values of all cells stay, so that other cells are entries then. */
+        void slimDefault(int row) {
+            putAt(defaults, row, commonestValue(row));
         }
 
         boolean isEntry(int row, int column) {
-            return valueAt(row, column) != defaults[row];
+            return numberAt(values, row * COLUMNS + column) != numberAt(defaults, row);
         }
 
         int columnsOf(int row) {
@@ -398,14 +422,26 @@ public final class PushedTables {
             return count;
         }
 
+        int formOf(int row) {
+            return numberAt(forms, row);
+        }
+
+        void giveForm(int row, int form) {
+            putAt(forms, row, form);
+        }
+
         int shiftOf(int form) {
-            return form >= 0 && form < MOST_FORMS ? shifts[form] : NONE;
+            return numberAt(shifts, form);
+        }
+
+        void changeShift(int form, int shift) {
+            putAt(shifts, form, shift);
         }
 
         int formCount() {
             int count = 0;
             for (int form = 0; form < MOST_FORMS; form++) {
-                if (shifts[form] != NONE) {
+                if (shiftOf(form) != NONE) {
                     count++;
                 }
             }
@@ -415,7 +451,7 @@ public final class PushedTables {
         int sharersOf(int form) {
             int count = 0;
             for (int row = 0; row < rowCount; row++) {
-                if (forms[row] == form) {
+                if (formOf(row) == form) {
                     count++;
                 }
             }
@@ -425,7 +461,7 @@ public final class PushedTables {
         /** The smallest number that no form has; there is one while some row has no form. */
         int freeForm() {
             for (int form = 0; form < MOST_FORMS; form++) {
-                if (shifts[form] == NONE) {
+                if (shiftOf(form) == NONE) {
                     return form;
                 }
             }
@@ -436,8 +472,8 @@ public final class PushedTables {
     /** The row of cells. */
     private static final class Store {
         /** NONE where the cell is empty, in both. */
-        final int[] values = new int[CELLS];
-        final int[] marks = new int[CELLS];
+        private final int[] values = new int[CELLS];
+        private final int[] marks = new int[CELLS];
 
         Store() {
             emptyAll();
@@ -449,17 +485,25 @@ public final class PushedTables {
         }
 
         void fillCell(int cell, int value, int mark) {
-            values[cell] = value;
-            marks[cell] = mark;
+            putAt(values, cell, value);
+            putAt(marks, cell, mark);
+        }
+
+        int valueAt(int cell) {
+            return numberAt(values, cell);
+        }
+
+        int markAt(int cell) {
+            return numberAt(marks, cell);
         }
 
         boolean isEmptyAt(int cell) {
-            return marks[cell] == NONE;
+            return numberAt(marks, cell) == NONE;
         }
 
         void takeOut(int form, int shift) {
             for (int cell = shift; cell < shift + COLUMNS; cell++) {
-                if (marks[cell] == form) {
+                if (markAt(cell) == form) {
                     fillCell(cell, NONE, NONE);
                 }
             }
@@ -468,7 +512,7 @@ public final class PushedTables {
         int filledOf(int form, int shift) {
             int count = 0;
             for (int cell = shift; cell < shift + COLUMNS; cell++) {
-                if (marks[cell] == form) {
+                if (markAt(cell) == form) {
                     count++;
                 }
             }
@@ -487,7 +531,7 @@ public final class PushedTables {
 
         private boolean fitsAt(int shift, int columns) {
             for (int column = 0; column < COLUMNS; column++) {
-                if ((columns >> column & 1) == 1 && !isEmptyAt(shift + column)) {
+                if ((columns >> column & 1) == 1 && numberAt(marks, shift + column) != NONE) {
                     return false;
                 }
             }
@@ -529,7 +573,7 @@ public final class PushedTables {
 
         /** Writes the row's entries at the shift of its form, if it has one. */
         private void fillCellsOf(int row) {
-            int form = state.forms[row];
+            int form = state.formOf(row);
             int shift = state.shiftOf(form);
             if (shift == NONE) {
                 return;
@@ -543,7 +587,7 @@ public final class PushedTables {
 
         /** Gives the row the form that its entries ask for; a form that still has them stays. */
         void settle(int row) {
-            if (hasEntriesOf(state.forms[row], row)) {
+            if (hasEntriesOf(state.formOf(row), row)) {
                 return;
             }
             leaveForm(row);
@@ -551,20 +595,22 @@ public final class PushedTables {
             if (columns == 0) {
                 return;
             }
-            state.forms[row] = formWithEntriesOf(row);
-            if (state.forms[row] == NONE) {
+            int form = formWithEntriesOf(row);
+            if (form == NONE) {
                 pushNewForm(row, columns);
+            } else {
+                state.giveForm(row, form);
             }
         }
 
         /** Takes the row's form from it, and out of the store if it was the last one that had it. */
         void leaveForm(int row) {
-            int form = state.forms[row];
+            int form = state.formOf(row);
             int shift = state.shiftOf(form);
-            state.forms[row] = NONE;
+            state.giveForm(row, NONE);
             if (shift != NONE && state.sharersOf(form) == 0) {
                 store.takeOut(form, shift);
-                state.shifts[form] = NONE;
+                state.changeShift(form, NONE);
             }
         }
 
@@ -584,11 +630,11 @@ public final class PushedTables {
                 return false;
             }
             for (int column = 0; column < COLUMNS; column++) {
-                boolean marked = store.marks[shift + column] == form;
+                boolean marked = store.markAt(shift + column) == form;
                 if (marked != state.isEntry(row, column)) {
                     return false;
                 }
-                if (marked && store.values[shift + column] != state.valueAt(row, column)) {
+                if (marked && store.valueAt(shift + column) != state.valueAt(row, column)) {
                     return false;
                 }
             }
@@ -601,8 +647,8 @@ public final class PushedTables {
             if (form == NONE || shift == NONE) {
                 return;
             }
-            state.forms[row] = form;
-            state.shifts[form] = shift;
+            state.giveForm(row, form);
+            state.changeShift(form, shift);
             fillCellsOf(row);
         }
 
@@ -630,12 +676,12 @@ public final class PushedTables {
         }
 
         int lookUp(int row, int column) {
-            int form = state.forms[row];
+            int form = state.formOf(row);
             int shift = state.shiftOf(form);
-            if (shift != NONE && store.marks[shift + column] == form) {
-                return store.values[shift + column];
+            if (shift != NONE && store.markAt(shift + column) == form) {
+                return store.valueAt(shift + column);
             }
-            return state.defaults[row];
+            return state.defaultOf(row);
         }
 
         int refusals() {
@@ -647,14 +693,14 @@ public final class PushedTables {
         }
 
         private int refusalsOf(int row) {
-            int form = state.forms[row];
+            int form = state.formOf(row);
             int shift = state.shiftOf(form);
             if (shift == NONE) {
                 return 0;
             }
             int count = 0;
             for (int cell = shift; cell < shift + COLUMNS; cell++) {
-                if (!store.isEmptyAt(cell) && store.marks[cell] != form) {
+                if (!store.isEmptyAt(cell) && store.markAt(cell) != form) {
                     count++;
                 }
             }
@@ -677,8 +723,10 @@ public final class PushedTables {
             if (size >= MOST_STATES) {
                 dropOldest();
             }
-            states[size].copyFrom(state);
-            size++;
+            if (size >= 0) {
+                states[size].copyFrom(state);
+                size++;
+            }
         }
 
         /** The oldest state's object is used again, behind the others. */
@@ -688,11 +736,14 @@ public final class PushedTables {
                 states[i - 1] = states[i];
             }
             states[MOST_STATES - 1] = oldest;
-            size--;
+            size = MOST_STATES - 1;
         }
 
-        /** To be called only if there is one. */
+        /** Takes the latest state out of the history; null if there is none. */
         State takeLatest() {
+            if (size <= 0 || size > MOST_STATES) {
+                return null;
+            }
             size--;
             return states[size];
         }
@@ -707,7 +758,7 @@ public final class PushedTables {
         private int number = 0;
         private int numberPlace = 0;
         int rowsRead = 0;
-        final int[] defaults = new int[MOST_ROWS];
+        private final int[] defaults = new int[MOST_ROWS];
         private final int[] values = new int[MOST_ROWS * COLUMNS];
 
         void appendSign(char sign) {
@@ -717,8 +768,19 @@ public final class PushedTables {
             }
         }
 
+        int defaultRead(int row) {
+            return numberAt(defaults, row);
+        }
+
         int valueRead(int row, int column) {
-            return values[row * COLUMNS + column];
+            return numberAt(values, row * COLUMNS + column);
+        }
+
+        private void beginRow(int row, int value) {
+            putAt(defaults, row, value);
+            for (int column = 0; column < COLUMNS; column++) {
+                putAt(values, row * COLUMNS + column, value);
+            }
         }
 
         /** Answers whether all of the text is a table of at most so many rows. */
@@ -738,18 +800,18 @@ public final class PushedTables {
         }
 
         private boolean readRow(int row) {
-            defaults[row] = 0;
+            int byDefault = 0;
             if (isDigitHere()) {
                 if (!readNumber()) {
                     return false;
                 }
-                defaults[row] = number;
+                byDefault = number;
             }
-            Arrays.fill(values, row * COLUMNS, (row + 1) * COLUMNS, defaults[row]);
-            return takeSign(':') && readEntries(row);
+            beginRow(row, byDefault);
+            return takeSign(':') && readEntries(row, byDefault);
         }
 
-        private boolean readEntries(int row) {
+        private boolean readEntries(int row, int byDefault) {
             if (takeSign(';')) {
                 return true;
             }
@@ -760,10 +822,10 @@ public final class PushedTables {
                     return false;
                 }
                 int column = number;
-                if (!takeSign('=') || !readNumber() || !allowNumber(number != defaults[row])) {
+                if (!takeSign('=') || !readNumber() || !allowNumber(number != byDefault)) {
                     return false;
                 }
-                values[row * COLUMNS + column] = number;
+                putAt(values, row * COLUMNS + column, number);
                 if (takeSign(';')) {
                     return true;
                 }
